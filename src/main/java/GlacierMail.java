@@ -1175,12 +1175,13 @@ public final class GlacierMail {
             for (int i = begin; i < stop; i++) {
                 int code = codes[i];
                 int fact = FIRST_CODE - code;
+                int known = fact >= 0 && fact < facts.length ? facts[fact] : 0;
                 if (code >= 0) {
                     sum += code;
-                } else if (fact >= 0 && fact < FACT_SIDE) {
-                    sum += facts[fact];
-                } else if (fact >= 0 && fact < facts.length) {
-                    truths = truths << 1 | facts[fact];
+                } else if (code > CODE_SIDE) {
+                    sum += known;
+                } else if (code >= CODE_FIRST) {
+                    truths = truths << 1 | known;
                 } else if (code == CODE_OTHER_SUM) {
                     left = sum;
                     sum = 0;

@@ -27,6 +27,11 @@ public final class LawTest {
         Check.same("another law in its place", Check.law(mail, "fast3;slow1if 1<2"), 2);
         Check.same("flow", mail.flow(0, 0, 0), 2);
         Check.same("fault", mail.fault(), -1);
+        Check.law(mail, "fast 1 if 2<1;fast 2;fast 4 if 1<2;slow 1 if 2<1;open if 2<1");
+        Check.same("each line by its own condition", mail.flow(0, 0, 0), 6);
+        Check.law(mail, "fast 1 if 1<2;fast 2 if 2<1;fast 4 if row<1 or 2<1;fast 8 if 1>0 and row>0");
+        Check.same("each line by its own condition", mail.flow(0, 0, 0), 5);
+        Check.same("at another row", mail.flow(0, 1, 0), 9);
     }
 
     private static void wrongTexts() {

@@ -33,6 +33,7 @@ public final class ValleyTest {
         Check.same("lanes tell the stripe", Check.told("stripe 1;lanes 5").count(12), 5);
         Check.same("last tells the snow", Check.told("snow 30 fall 1;last 15").count(10), 10);
         Check.same("last leaves the fall", Check.told("snow 30 fall 1;last 15").count(11), 1);
+        Check.same("no fall", Check.told("snow 0 fall 0").count(11), 0);
         Check.same("lanes leave the snow", Check.told("snow 30 fall 1;lanes 2").count(10), 30);
     }
 
@@ -57,6 +58,9 @@ public final class ValleyTest {
         Check.wrongValley(mail, "seed x", 5);
         Check.wrongValley(mail, "Seed 1", 0);
         Check.wrongValley(mail, "seeds 1", 0);
+        Check.wrongValley(mail, "seedz 1", 0);
+        Check.wrongValley(mail, "deed 1", 0);
+        Check.wrongValley(mail, "seer 1", 0);
         Check.wrongValley(mail, "see 1", 0);
         Check.wrongValley(mail, "seed -1", 5);
         Check.wrongValley(mail, "seed 1\n", 6);
@@ -122,6 +126,13 @@ public final class ValleyTest {
             Check.wrongValley(mail, "lanes 3", 0);
             Check.wrongValley(mail, " last 40", 1);
             Check.wrongValley(new GlacierMail(), line + ";last 40", line.length() + 1);
+        }
+        for (String line : lines) {
+            for (String other : lines) {
+                if (!line.equals(other)) {
+                    Check.wrongValley(Check.told(line + ";" + other), "lanes 3", 0);
+                }
+            }
         }
         GlacierMail free = Check.told("snow 3 fall 3;stripe 1;seed 3;lanes 4;last 20");
         Check.same("lanes", free.count(0), 4);
