@@ -60,6 +60,7 @@ public final class GlacierMail {
     private final LawReader lawReader = new LawReader(tape);
 
     private final Rows ends = new Rows(MOST_LETTERS, 2);
+    private boolean endsKnown = false;
     private final Rows came = new Rows(MOST_THIEF_YEARS, MOST_LANES);
     private final Rows taken = new Rows(MOST_THIEF_YEARS + 1, MOST_LANES);
 
@@ -109,8 +110,7 @@ public final class GlacierMail {
         }
         told.copyFrom(draft);
         told.texts++;
-        ice.renew();
-        history.forget();
+        forgetWays();
         return told.texts;
     }
 
@@ -121,9 +121,15 @@ public final class GlacierMail {
             throw new IllegalArgumentException("the text of the law is wrong");
         }
         told.law = lawReader.makeLaw();
+        forgetWays();
+        return lawLines();
+    }
+
+    /** To be called when a text, or going back, changed what is told. */
+    private void forgetWays() {
         ice.renew();
         history.forget();
-        return lawLines();
+        endsKnown = false;
     }
 
     public int fault() {
@@ -225,6 +231,7 @@ public final class GlacierMail {
             throw new UnsupportedOperationException("there are twenty-four letters");
         }
         history.remember(told);
+        endsKnown = false;
         return told.throwIn(from, to, told.people.get(from, HUT_LANE), told.people.get(from, HUT_ROW));
     }
 
@@ -243,7 +250,8 @@ public final class GlacierMail {
         needLetter(letter);
         int to = told.letters.get(letter, TO);
         // a ROCK is to nobody, so nobody can open it here even if it waits
-        if (to == NONE || !waits(letter, outOf(letter))) {
+        reckonEnds();
+        if (to == NONE || !waits(letter)) {
             throw new IllegalStateException("it does not wait");
         }
         history.remember(told);
@@ -268,7 +276,7 @@ public final class GlacierMail {
         told.now++;
         int opened = 0;
         for (int letter = 0; letter < told.letters.size(); letter++) {
-            if (waits(letter, ends.get(letter, OUT))) {
+            if (waits(letter)) {
                 int opener = openerOf(letter);
                 if (opener != NONE) {
                     told.openLetter(letter, opener);
@@ -381,11 +389,12 @@ public final class GlacierMail {
         reckonEnds();
         int best = NONE;
         int most = 0;
-        for (int year = 0; year < YEARS; year++) {
-            int out = outIn(year, false);
-            if (out > most) {
-                most = out;
-                best = year;
+        for (int letter = 0; letter < ends.size(); letter++) {
+            int out = ends.get(letter, OUT);
+            int with = out == NONE ? 0 : outIn(out, false);
+            if (with > most || with == most && out < best) {
+                most = with;
+                best = out;
             }
         }
         return many ? most : best;
@@ -651,18 +660,25 @@ public final class GlacierMail {
 
     public int order(int k) {
         reckonEnds();
-        int before = 0;
-        for (int year = 0; year < YEARS; year++) {
-            for (int letter = 0; letter < ends.size(); letter++) {
-                if (ends.get(letter, OUT) == year) {
-                    if (before == k) {
-                        return letter;
-                    }
-                    before++;
-                }
+        for (int letter = 0; letter < ends.size(); letter++) {
+            if (ends.get(letter, OUT) != NONE && outAheadOf(letter) == k) {
+                return letter;
             }
         }
         return NONE;
+    }
+
+    private int outAheadOf(int letter) {
+        int out = ends.get(letter, OUT);
+        int many = 0;
+        for (int other = 0; other < ends.size(); other++) {
+            int otherOut = ends.get(other, OUT);
+            boolean sooner = otherOut != NONE && otherOut < out;
+            if (sooner || otherOut == out && other < letter) {
+                many++;
+            }
+        }
+        return many;
     }
 
     public int streams(int year, boolean second) throws IllegalArgumentException {
@@ -727,6 +743,7 @@ public final class GlacierMail {
     }
 
     public boolean undo() {
+        endsKnown = false;
         return history.takeBack(told);
     }
 
@@ -740,8 +757,7 @@ public final class GlacierMail {
             return false;
         }
         told.copyFrom(image);
-        ice.renew();
-        history.forget();
+        forgetWays();
         return true;
     }
 
@@ -794,12 +810,18 @@ public final class GlacierMail {
         return NONE;
     }
 
+    /** How all LETTERS end; it is kept, as most calls ask for it, until a WAY may have changed. */
     private void reckonEnds() {
+        if (endsKnown) {
+            return;
+        }
         ends.reset(told.letters.size());
         for (int letter = 0; letter < ends.size(); letter++) {
-            ends.put(letter, OUT, outOf(letter));
+            way.startLetter(letter);
+            ends.put(letter, OUT, way.runOut(LAST_YEAR));
             ends.put(letter, OUT_DEEP, way.deep);
         }
+        endsKnown = true;
     }
 
     private int outIn(int year, boolean rocks) {
@@ -829,16 +851,17 @@ public final class GlacierMail {
         return out != NONE && out <= year;
     }
 
-    private boolean waits(int letter, int out) {
-        return told.letters.get(letter, OPENER) == NONE && isOutBy(out, told.now);
+    private boolean waits(int letter) {
+        return told.letters.get(letter, OPENER) == NONE && isOutBy(ends.get(letter, OUT), told.now);
     }
 
     /** How many LETTERS wait that are to a PERSON; of all, for NONE. */
     private int waiting(int person) {
+        reckonEnds();
         int many = 0;
         for (int letter = 0; letter < told.letters.size(); letter++) {
             boolean asked = person == NONE || told.letters.get(letter, TO) == person;
-            if (asked && waits(letter, outOf(letter))) {
+            if (asked && waits(letter)) {
                 many++;
             }
         }
@@ -846,9 +869,10 @@ public final class GlacierMail {
     }
 
     private int inIceNow() {
+        reckonEnds();
         int many = 0;
         for (int letter = 0; letter < told.letters.size(); letter++) {
-            if (!isOutBy(outOf(letter), told.now)) {
+            if (!isOutBy(ends.get(letter, OUT), told.now)) {
                 many++;
             }
         }
@@ -1211,18 +1235,23 @@ public final class GlacierMail {
 
         private final State told;
         private final int[] heats = new int[YEARS];
+        private final int[] speeds = new int[MOST_LANES * MOST_LAST];
+        // by YEAR the FLOODS as bits: most years have none, and need not look at them
+        private final int[] floods = new int[YEARS];
         private final int[] facts = new int[Law.FACTS];
         private long[] flows = null;
         private boolean flowsForgotten = true;
 
         Ice(State told) {
             this.told = told;
-            reckonHeats();
+            renew();
         }
 
         /** To be called when a text, or going back, changed what is told. */
         void renew() {
             reckonHeats();
+            reckonSpeeds();
+            reckonFloods();
             flowsForgotten = true;
         }
 
@@ -1234,18 +1263,41 @@ public final class GlacierMail {
             }
         }
 
+        private void reckonSpeeds() {
+            Arrays.fill(speeds, 0);
+            for (int section = 0; section < told.sections.size(); section++) {
+                int from = Math.max(0, told.sections.get(section, 0));
+                for (int lane = 0; lane < told.lanes && lane < MOST_LANES; lane++) {
+                    int speed = told.sections.get(section, 1 + lane);
+                    // the next section, if there is one, writes over what is its own
+                    for (int row = from; row < told.last && row < MOST_LAST; row++) {
+                        speeds[lane * MOST_LAST + row] = speed;
+                    }
+                }
+            }
+        }
+
+        private void reckonFloods() {
+            Arrays.fill(floods, 0);
+            for (int flood = 0; flood < told.floods.size(); flood++) {
+                int year = told.floods.get(flood, FLOOD_YEAR);
+                if (year >= 0 && year < YEARS) {
+                    floods[year] |= 1 << flood;
+                }
+            }
+        }
+
         int heatIn(int year) {
             return year >= 0 && year < YEARS ? heats[year] : 0;
         }
 
+        int floodsIn(int year) {
+            return year >= 0 && year < YEARS ? floods[year] : 0;
+        }
+
         int speedAt(int lane, int row) {
-            int speed = 0;
-            for (int section = 0; section < told.sections.size(); section++) {
-                if (told.sections.get(section, 0) <= row) {
-                    speed = told.sections.get(section, 1 + lane);
-                }
-            }
-            return speed;
+            int place = lane * MOST_LAST + row;
+            return place >= 0 && place < speeds.length ? speeds[place] : 0;
         }
 
         /** FLOW; under a law it is remembered, as the ways of many throws ask for the same ones. */
@@ -1378,8 +1430,9 @@ public final class GlacierMail {
 
         private void takeFloods() {
             Rows floods = told.floods;
-            for (int flood = 0; flood < floods.size(); flood++) {
-                boolean comes = flood != leftOut && floods.get(flood, FLOOD_YEAR) == year;
+            int bits = ice.floodsIn(year);
+            for (int flood = 0; bits != 0 && flood < floods.size(); flood++) {
+                boolean comes = flood != leftOut && (bits >> flood & 1) == 1;
                 if (comes && row >= floods.get(flood, FLOOD_ROW)) {
                     row += floods.get(flood, FLOOD_MORE);
                     moved += floods.get(flood, FLOOD_MORE);
