@@ -8,6 +8,7 @@ public final class LawTest {
         words();
         logic();
         bounds();
+        fullTape();
         opens();
         Check.finish();
     }
@@ -164,6 +165,23 @@ public final class LawTest {
         Check.same("by the law of the image", mail.flow(1, 0, 0), 10);
         Check.valley(mail, "section 5 1 1 1");
         Check.same("by the new section", mail.flow(1, 5, 0), 1);
+    }
+
+    private static void fullTape() {
+        GlacierMail mail = new GlacierMail();
+        String head = "fast1if0<1";
+        String text = head + "and0<1".repeat(65);
+        Check.same("400 bytes", text.length(), 400);
+        Check.same("as many conditions as can be", Check.law(mail, text), 1);
+        Check.same("all hold", mail.flow(0, 0, 0), 1);
+        Check.law(mail, text.substring(0, 399) + "0");
+        Check.same("all but the last", mail.flow(0, 0, 0), 0);
+        Check.law(mail, "fast1if row>" + "+1".repeat(194).substring(1));
+        Check.same("194 parts", mail.flow(0, 0, 0), 0);
+        Check.law(mail, "fast1if " + "+9".repeat(193).substring(1) + ">999");
+        Check.same("9 times 193", mail.flow(0, 0, 0), 1);
+        Check.law(mail, "fast1if not(1<0 or(1<0 or(1<0 or(1<0 or(0<1 and 1<0)or 1<0)or 1<0)or 1<0)or 1<0)");
+        Check.same("deep", mail.flow(0, 0, 0), 1);
     }
 
     /** Whether the watcher (person 1) opens what person 0 threw to person 2, who does not watch, in one year. */
