@@ -248,14 +248,12 @@ public final class GlacierMail {
 
     public int open(int letter) throws IndexOutOfBoundsException, IllegalStateException {
         needLetter(letter);
-        int to = told.letters.get(letter, TO);
-        // a ROCK is to nobody, so nobody can open it here even if it waits
         reckonEnds();
-        if (to == NONE || !waits(letter)) {
+        if (!waits(letter)) {
             throw new IllegalStateException("it does not wait");
         }
         history.remember(told);
-        told.openLetter(letter, to);
+        told.openLetter(letter, told.letters.get(letter, TO));
         return told.now - told.letters.get(letter, YEAR);
     }
 
@@ -290,7 +288,7 @@ public final class GlacierMail {
     private int openerOf(int letter) {
         int lane = told.letters.get(letter, LANE);
         int to = told.letters.get(letter, TO);
-        if (to != NONE && told.people.get(to, WATCHES) == lane) {
+        if (told.people.get(to, WATCHES) == lane) {
             return to;
         }
         int age = told.now - told.letters.get(letter, YEAR);
@@ -851,8 +849,10 @@ public final class GlacierMail {
         return out != NONE && out <= year;
     }
 
+    /** Whether it lies at the lip for somebody to open it: a ROCK is to nobody, so it never waits. */
     private boolean waits(int letter) {
-        return told.letters.get(letter, OPENER) == NONE && isOutBy(ends.get(letter, OUT), told.now);
+        boolean closed = !told.isRock(letter) && told.letters.get(letter, OPENER) == NONE;
+        return closed && isOutBy(ends.get(letter, OUT), told.now);
     }
 
     /** How many LETTERS wait that are to a PERSON; of all, for NONE. */

@@ -173,8 +173,8 @@ public final class BackTest {
         mail.post(1, 0);
         mail.years(2);
         mail.years(2);
-        // letter 2 is out in 3 and waits for 1, letter 3 as well and 0 opened it; rock 0 is out and waits; rock 1 stands
-        int[] due = {5, 12, 2, 2, 4, 1, 1, 1, 3, 4, 4, 5, 2, 12, 1, 2, 1, 4};
+        // letter 2 is out in 3 and waits for 1, letter 3 as well and 0 opened it; rock 0 is out, rock 1 stands
+        int[] due = {5, 12, 2, 2, 4, 1, 1, 1, 3, 4, 4, 5, 2, 12, 1, 1, 1, 4};
         for (int what = 0; what < due.length; what++) {
             Check.same("count " + what, mail.count(what), due[what]);
         }

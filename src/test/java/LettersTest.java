@@ -11,6 +11,7 @@ public final class LettersTest {
         opening();
         years();
         rocksAtTheLip();
+        rocksComeOutLater();
         Check.finish();
     }
 
@@ -224,13 +225,35 @@ public final class LettersTest {
     }
 
     private static void rocksAtTheLip() {
-        GlacierMail mail = Check.told("lanes 1;last 10;section 0 5;rock 0 0;person 0 0 watch 0");
+        GlacierMail mail = Check.told("lanes 1;last 10;section 0 5;rock 0 0;person 0 0 watch 0;person 0 5");
         mail.years(2);
-        Check.same("a rock is a letter: it waits", mail.count(15), 1);
-        Check.same("but to nobody", mail.person(0, 5), 0);
+        Check.same("the rock is out", mail.letter(0, 7), 2);
+        Check.same("a rock does not wait", mail.count(15), 0);
+        Check.same("nor is it in the ice", mail.count(16), 0);
+        Check.same("nor does it wait for one", mail.person(0, 5), 0);
         Check.law(mail, "open");
-        Check.same("one who may opens it", mail.years(1), 1);
-        Check.same("by whom", mail.letter(0, 5), 0);
-        Check.same("none waits", mail.count(15), 0);
+        int letter = mail.post(1, 0);
+        Check.same("the letter alone is opened where all may open", mail.years(3), 1);
+        Check.same("it is in the log", mail.log(0, 1), letter);
+        Check.same("the rock is not", mail.log(1, 1), -1);
+        Check.same("nobody opened the rock", mail.letter(0, 5), -1);
+        Check.same("in no year", mail.letter(0, 6), -1);
+        Check.same("one opened one", mail.person(0, 4), 1);
+        Check.same("of all one is opened", mail.count(14), 1);
+        Check.state("a rock cannot be opened", () -> mail.open(0));
+    }
+
+    private static void rocksComeOutLater() {
+        GlacierMail mail = Check.told("person 0 0 watch 0;person 1 1 watch 0;flood 5 0 1;rock 0 39");
+        Check.law(mail, "open");
+        Check.same("ahead of the flood", mail.years(5), 0);
+        Check.same("in the ice", mail.count(16), 1);
+        Check.same("by the flood it is out, and none opens it", mail.years(1), 0);
+        Check.same("out", mail.letter(0, 7), 6);
+        Check.same("not in the ice", mail.count(16), 0);
+        Check.same("it does not wait", mail.count(15), 0);
+        Check.same("nor later", mail.years(50), 0);
+        Check.same("the log", mail.log(0, 0), -1);
+        Check.same("the acts are remembered", mail.count(17), 3);
     }
 }

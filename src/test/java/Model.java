@@ -545,8 +545,12 @@ final class Model {
     }
 
     private boolean waits(int letter) {
+        int[] l = all.letters.get(letter);
+        if (l[1] == NONE || l[5] != NONE) {
+            return false;
+        }
         int out = path(letter).out;
-        return all.letters.get(letter)[5] == NONE && out != NONE && out <= all.now;
+        return out != NONE && out <= all.now;
     }
 
     // ---- people and letters ----
@@ -627,7 +631,7 @@ final class Model {
     int open(int letter) {
         index(letter, all.letters.size());
         int[] l = all.letters.get(letter);
-        if (!waits(letter) || l[1] == NONE) {
+        if (!waits(letter)) {
             throw new IllegalStateException();
         }
         act();
@@ -655,7 +659,7 @@ final class Model {
 
     private int opener(int letter) {
         int[] l = all.letters.get(letter);
-        if (l[1] != NONE && all.people.get(l[1])[2] == l[2]) {
+        if (all.people.get(l[1])[2] == l[2]) {
             return l[1];
         }
         for (int p = 0; p < all.people.size(); p++) {
