@@ -3,6 +3,7 @@ public final class BackTest {
     public static void main(String[] args) {
         log();
         undoing();
+        undoingLetters();
         twelveActs();
         textsEndUndoing();
         refusedCallsAreNoActs();
@@ -63,6 +64,22 @@ public final class BackTest {
         mail.undo();
         Check.same("the tape stays", mail.end(20), true);
         Check.same("the image stays", mail.back(), true);
+    }
+
+    private static void undoingLetters() {
+        GlacierMail mail = Check.told("lanes 2;last 10;section 0 5 0;person 0 0 watch 0;person 1 0 watch 1");
+        mail.post(1, 0);
+        Check.same("one is lost", mail.lost(), 1);
+        mail.undo();
+        Check.same("none is lost", mail.lost(), 0);
+        Check.same("none comes", mail.order(0), -1);
+        mail.post(0, 1);
+        Check.same("the new one is out", mail.outs(2), 1);
+        mail.undo();
+        Check.same("none is out", mail.outs(2), 0);
+        mail.post(1, 0);
+        Check.same("none is out of the lost one", mail.outs(2), 0);
+        Check.same("it is in the ice", mail.count(16), 1);
     }
 
     private static void twelveActs() {

@@ -4,6 +4,7 @@ public final class IceTest {
         heats();
         speeds();
         flows();
+        flowsEverywhere();
         Check.finish();
     }
 
@@ -57,5 +58,24 @@ public final class IceTest {
         Check.index("row ahead of the year", () -> mail.flow(0, 30, -1));
         Check.argument("year 300", () -> mail.flow(0, 0, 300));
         Check.argument("year -1", () -> mail.flow(0, 0, -1));
+    }
+
+    /** No flow is taken for that of another place or year, whichever is asked first. */
+    private static void flowsEverywhere() {
+        GlacierMail mail = Check.told("lanes 6;last 99;section 0 1 2 3 4 5 6;section 50 7 8 9 10 11 12");
+        Check.law(mail, "fast 1 if row + lane + lane > year;slow 2 if heat > 4 and lane + row < 60;fast 9 if year > 150");
+        boolean right = true;
+        for (int turn = 0; turn < 2; turn++) {
+            for (int lane = 0; lane < 6; lane++) {
+                for (int row = 0; row < 99; row++) {
+                    for (int year = 0; year < 300; year++) {
+                        int due = lane + (row < 50 ? 1 : 7) + (row + 2 * lane > year ? 1 : 0) + (year > 150 ? 9 : 0)
+                                - (mail.heat(year) > 4 && lane + row < 60 ? 2 : 0);
+                        right &= mail.flow(lane, row, year) == Math.max(0, due);
+                    }
+                }
+            }
+        }
+        Check.same("all flows", right, true);
     }
 }

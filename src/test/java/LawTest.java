@@ -40,6 +40,8 @@ public final class LawTest {
         Check.wrongLaw(mail, ";", 0);
         Check.wrongLaw(mail, "fast if side", 5);
         Check.wrongLaw(mail, "fast 0001", 5);
+        Check.wrongLaw(mail, "fast 21", 5);
+        Check.wrongLaw(mail, "slow 21", 5);
         Check.wrongLaw(mail, "fast 1 side", 7);
         Check.wrongLaw(mail, "fast 1 if", 9);
         Check.wrongLaw(mail, "fast 1 if ;", 10);
@@ -137,6 +139,10 @@ public final class LawTest {
             {"not " + yes + " or " + yes, 1}, {"not (" + yes + " or " + yes + ")", 0},
             {"not " + no + " and " + no, 0}, {"not (" + no + " and " + no + ")", 1},
             {no + " or " + yes + " and " + yes + " or " + no, 1}, {no + " or " + yes + " and " + no + " or " + no, 0},
+            // at lane 1 of 3: first, and not at a side
+            {yes + " and first", 1}, {no + " and first", 0}, {yes + " and side", 0}, {yes + " or side", 1},
+            {no + " or first", 1}, {no + " or side", 0}, {"first and " + yes, 1}, {"side or first", 1},
+            {"first and side", 0}, {"first and not side and " + yes, 1}, {"not first or not side and first", 1},
             {"((((1+2+3>5 and (0<1 or 1<0)))))", 1}, {"(" + no + " or (" + yes + " and not " + no + "))", 1},
         };
         for (Object[] one : cases) {

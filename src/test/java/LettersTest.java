@@ -10,6 +10,7 @@ public final class LettersTest {
         watching();
         opening();
         years();
+        firstWhoMay();
         rocksAtTheLip();
         rocksComeOutLater();
         Check.finish();
@@ -222,6 +223,16 @@ public final class LettersTest {
         Check.same("to 299", mail.years(47), 0);
         Check.argument("no year is left", () -> mail.years(1));
         Check.same("the last year", mail.count(9), 299);
+    }
+
+    private static void firstWhoMay() {
+        GlacierMail mail = Check.told("lanes 1;last 10;section 0 5;person 0 5 watch 0;person 0 5 watch 0;person 0 5");
+        Check.law(mail, "open");
+        mail.post(1, 2);
+        mail.post(0, 1);
+        Check.same("both", mail.years(1), 2);
+        Check.same("the first of all who may, if whom it is to does not watch", mail.letter(0, 5), 0);
+        Check.same("whom it is to ahead of the first", mail.letter(1, 5), 1);
     }
 
     private static void rocksAtTheLip() {

@@ -58,6 +58,18 @@ public final class LipTest {
         // now three in lane 0 in year 3
         Check.same("five at lane 0", mail.thieves(5, false), 5);
         Check.same("begin at 0", mail.thieves(5, true), 0);
+        // in year 1 at 3, and a year later at 2: one goes back by one lane
+        GlacierMail back = Check.told("lanes 4;last 12;section 0 1 1 6 12;person 3 0;person 2 0");
+        back.post(0, 1);
+        back.post(1, 0);
+        Check.same("both", back.thieves(3, false), 2);
+        Check.same("begin at 2", back.thieves(3, true), 2);
+        // from 3 to 1 in a year is too far
+        GlacierMail far = Check.told("lanes 4;last 12;section 0 1 6 1 12;person 3 0;person 1 0");
+        far.post(0, 1);
+        far.post(1, 0);
+        Check.same("one of both", far.thieves(3, false), 1);
+        Check.same("begin at 0", far.thieves(3, true), 0);
     }
 
     private static void watchman() {
@@ -80,6 +92,10 @@ public final class LipTest {
         mail.years(2);
         Check.same("lane 2 comes out now: guard it", mail.watchman(1, false), 2);
         Check.same("one in lane 1", mail.watchman(1, true), 1);
+        GlacierMail middle = Check.told("lanes 3;last 10;section 0 5 5 5;person 1 0;person 0 0");
+        middle.post(0, 1);
+        Check.same("guards lane 1", middle.watchman(3, false), 1);
+        Check.same("none elsewhere", middle.watchman(3, true), 0);
         Check.argument("0", () -> mail.watchman(0, true));
         Check.argument("31", () -> mail.watchman(31, false));
         GlacierMail one = Check.told("lanes 1;last 10;section 0 9;person 0 5;person 0 3");

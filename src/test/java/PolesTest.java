@@ -4,6 +4,7 @@ public final class PolesTest {
         tables();
         fewest();
         fits();
+        fullTape();
         Check.finish();
     }
 
@@ -59,5 +60,20 @@ public final class PolesTest {
         Check.fit(mail, 0, 1);
         Check.same("readings are no text: the fault stays", mail.fault(), 0);
         Check.same("without tables", Check.fit(new GlacierMail(), 0, 1), 0);
+    }
+
+    private static void fullTape() {
+        GlacierMail mail = Check.told("lanes 3;table 1 2 3;table 1 2 4");
+        int[] readings = new int[400];
+        for (int i = 0; i < 400; i += 2) {
+            readings[i] = 1;
+            readings[i + 1] = 2;
+        }
+        Check.same("200 readings", Check.fit(mail, readings), 3);
+        readings[398] = 2;
+        readings[399] = 4;
+        Check.same("the last tells", Check.fit(mail, readings), 2);
+        readings[399] = 21;
+        Check.argument("the last is wrong", () -> Check.fit(mail, readings));
     }
 }

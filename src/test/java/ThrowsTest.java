@@ -5,6 +5,7 @@ public final class ThrowsTest {
         latest();
         hut();
         floods();
+        floodsOfTheFirstYear();
         lost();
         market();
         passes();
@@ -118,6 +119,13 @@ public final class ThrowsTest {
         Check.same("but not out by then", still.letter(0, 7), -1);
     }
 
+    private static void floodsOfTheFirstYear() {
+        GlacierMail mail = Check.told("lanes 1;last 20;section 0 4;rock 0 0;flood 0 4 3;flood 0 8 3;flood 0 7 1");
+        Check.same("by the row that the flow, and each flood, brought", mail.where(0, 1), 8);
+        Check.same("moved", mail.moved(0), 4);
+        Check.same("without the first", mail.without(0, 0), 5);
+    }
+
     private static void lost() {
         GlacierMail mail = Check.told("lanes 2;last 20;section 0 0 1;rock 0 0;rock 1 0;person 0 0;person 1 0");
         mail.post(0, 1);
@@ -142,6 +150,13 @@ public final class ThrowsTest {
         Check.same("two", mail.market(true), 2);
         mail.years(10);
         Check.same("gone by, too", mail.market(false), 5);
+        GlacierMail few = Check.told("lanes 2;last 20;section 0 0 5;person 0 0;person 1 0");
+        few.post(0, 1);
+        Check.same("one that is lost makes no market", few.market(true), 0);
+        Check.same("nor its year", few.market(false), -1);
+        few.undo();
+        few.post(1, 0);
+        Check.same("the first letter alone", few.market(false), 4);
     }
 
     private static void passes() {
@@ -166,6 +181,12 @@ public final class ThrowsTest {
         Check.same("the rock passes none", later.passes(0), 0);
         later.post(1, 0);
         Check.same("12 of 11 was never behind", later.passes(2), 1);
+        // all stands but in one year: what it brings is seen at the begin of the next
+        GlacierMail last = Check.told("lanes 1;last 20;section 0 0;rock 0 3;rock 0 5");
+        Check.law(last, "fast 4 if row < 4 and year > 297");
+        Check.same("passed by the begin of the last year", last.passes(0), 1);
+        Check.law(last, "fast 4 if row < 4 and year > 298");
+        Check.same("behind the last year none is seen", last.passes(0), 0);
     }
 
     private static void passesThatAreNone() {

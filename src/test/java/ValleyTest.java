@@ -72,7 +72,10 @@ public final class ValleyTest {
         Check.wrongValley(mail, "person 0 0 foo", 11);
         Check.wrongValley(mail, "person 0 0 watch", 16);
         Check.wrongValley(mail, "person 0 0 watch 1 2", 19);
+        Check.wrongValley(mail, "snow 1 fall 10", 12);
         Check.wrongValley(mail, "section 0 1 1 1 1", 16);
+        Check.wrongValley(mail, "section 1 1 1 1", 8);
+        Check.wrongValley(mail, "section 0 1 1 21", 14);
         Check.wrongValley(mail, "section 0 1 1 1;section 39 1 1 1;section 40 1 1 1", 41);
         Check.wrongValley(mail, "section 0 1 1 1;section 5 1 1 1;section 5 1 1 1", 40);
         Check.wrongValley(mail, "table 1 1 21", 10);
@@ -81,6 +84,13 @@ public final class ValleyTest {
         Check.wrongValley(mail, "rock 0", 6);
         Check.wrongValley(mail, "flood 0 0 0", 10);
         Check.wrongValley(mail, "flood 0 0", 9);
+        Check.wrongValley(mail, "flood 0 0 21", 10);
+        Check.wrongValley(mail, "flood 300 0 1", 6);
+        Check.wrongValley(mail, "flood 0 40 1", 8);
+        Check.wrongValley(mail, "lanes 0", 6);
+        Check.wrongValley(mail, "lanes 7", 6);
+        Check.wrongValley(mail, "last 9", 5);
+        Check.wrongValley(mail, "last 100", 5);
         Check.wrongValley(mail, "flood 9999 0 1", 6);
         Check.wrongValley(mail, "lanes 2;stripe 3", 15);
         Check.wrongValley(mail, "last 10;snow 10 fall 1", 13);
@@ -98,6 +108,7 @@ public final class ValleyTest {
         Check.same("14 lines", Check.valley(mail, times("seed 1", 14)), 1);
         Check.wrongValley(mail, times("seed 1", 14) + ";", 98);
         Check.wrongValley(mail, times("seed 1", 14) + ";  x", 100);
+        Check.wrongValley(mail, times("seed 1", 15), 98);
         Check.valley(mail, "section 0 1 1 1;section 1 1 1 1;section 2 1 1 1;section 3 1 1 1;section 4 1 1 1;"
                 + "section 5 1 1 1;section 6 1 1 1;section 7 1 1 1");
         Check.wrongValley(mail, " section 8 1 1 1", 1);
