@@ -1239,7 +1239,8 @@ public final class GlacierMail {
         // by YEAR the FLOODS as bits: most years have none, and need not look at them
         private final int[] floods = new int[YEARS];
         private final int[] facts = new int[Law.FACTS];
-        private long[] flows = null;
+        // made once and filled anew, as no call may make a row so long: all calls of a run share one room
+        private final long[] flows = new long[MOST_LANES * MOST_LAST * YEARS / FLOWS_A_LONG];
         private boolean flowsForgotten = true;
 
         Ice(State told) {
@@ -1317,9 +1318,6 @@ public final class GlacierMail {
         }
 
         private int recalledFlow(int cell) {
-            if (flows == null) {
-                flows = new long[MOST_LANES * MOST_LAST * YEARS / FLOWS_A_LONG];
-            }
             if (flowsForgotten) {
                 Arrays.fill(flows, -1L);
                 flowsForgotten = false;
@@ -1333,7 +1331,7 @@ public final class GlacierMail {
 
         private void keepFlow(int cell, int flow) {
             int place = cell / FLOWS_A_LONG;
-            if (flows != null && cell >= 0 && place < flows.length) {
+            if (cell >= 0 && place < flows.length) {
                 long others = ~((long) UNKNOWN << cell % FLOWS_A_LONG * FLOW_BITS);
                 flows[place] = flows[place] & others | (long) flow << cell % FLOWS_A_LONG * FLOW_BITS;
             }

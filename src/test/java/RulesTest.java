@@ -92,6 +92,10 @@ public final class RulesTest {
         Pattern thrown = Pattern.compile("throw new (IllegalStateException|IllegalArgumentException"
                 + "|IndexOutOfBoundsException|UnsupportedOperationException|NoSuchElementException)"
                 + "\\((\"[^\"]*\")?\\);");
+        // what a field is made with, or one of the lines told below: the room of one run holds no more (rule 12)
+        Pattern makes = Pattern.compile("\\bnew\\b|copyOf|clone\\(|StringBuilder|\\{.*,.*\\};|List\\.of");
+        Pattern field = Pattern.compile("^( {4}| {8})(private |static )*final .* = new ");
+        List<String> made = new ArrayList<>();
         int begin = 0;
         for (int i = 0; i < lines.size(); i++) {
             String line = lines.get(i);
@@ -104,6 +108,8 @@ public final class RulesTest {
             }
             if (code.contains("throw new")) {
                 Check.same("line " + (i + 1), thrown.matcher(line.trim()).matches(), true);
+            } else if (makes.matcher(code).find() && !field.matcher(code).find()) {
+                made.add(code.trim());
             }
             // a method begins with four or eight blanks and a brace that opens, and ends with a brace alone
             if (code.matches("( {4}| {8})[a-z].*\\) ?(throws .*)?\\{|( {4}| {8})[a-zA-Z]+\\(.*\\{")) {
@@ -114,5 +120,8 @@ public final class RulesTest {
                 Check.same("the method of line " + (begin + 1) + " is short", type, true);
             }
         }
+        Check.same("what is made elsewhere than for a field", made, List.of(
+                "this.cells = new int[most * width];", "ahead[i] = new State();",
+                "this.words = new Words(text, mostDigits);", "return new Law(lines, Arrays.copyOf(codes, used));"));
     }
 }
