@@ -1093,7 +1093,7 @@ public final class GlacierMail {
         private int size = 0;
 
         History() {
-            for (int i = 0; i < MOST_ACTS; i++) {
+            for (int i = 0; i < ahead.length; i++) {
                 ahead[i] = new State();
             }
         }
@@ -1102,8 +1102,16 @@ public final class GlacierMail {
             return size;
         }
 
+        /** All places are filled when the history is made. */
+        private State at(int place) {
+            return place >= 0 && place < ahead.length ? ahead[place] : null;
+        }
+
         void remember(State told) {
-            ahead[next].copyFrom(told);
+            State place = at(next);
+            if (place != null) {
+                place.copyFrom(told);
+            }
             next = (next + 1) % MOST_ACTS;
             size = Math.min(size + 1, MOST_ACTS);
         }
@@ -1114,7 +1122,10 @@ public final class GlacierMail {
             }
             next = (next + MOST_ACTS - 1) % MOST_ACTS;
             size--;
-            told.copyFrom(ahead[next]);
+            State before = at(next);
+            if (before != null) {
+                told.copyFrom(before);
+            }
             return true;
         }
 

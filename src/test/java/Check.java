@@ -4,6 +4,7 @@ import java.nio.charset.StandardCharsets;
 final class Check {
     private static int wrong = 0;
     private static int asked = 0;
+    private static String about = "";
 
     private Check() {
     }
@@ -61,8 +62,17 @@ final class Check {
         asked++;
         if (!got.equals(due)) {
             wrong++;
-            System.out.println(what + " answered " + got + ", due is " + due);
+            System.out.println(about + what + " answered " + got + ", due is " + due);
         }
+    }
+
+    /** A test of its own for words of the document: it must ask something. */
+    static void about(String words, Runnable test) {
+        int before = asked;
+        about = "\"" + words + "\": ";
+        test.run();
+        about = "";
+        same("a test of \"" + words + "\" asks something", asked > before, true);
     }
 
     /** What a call answers, or the name of the exception that it throws. */

@@ -1110,7 +1110,17 @@ final class Model {
         return true;
     }
 
+    /** What count() answers of what is just told: sizes and the like, 0 to 9. */
+    int told(int what) {
+        int[] counts = {all.lanes, all.last, all.sections.size(), all.people.size(), all.letters.size(),
+            all.floods.size(), all.tables.size(), all.texts, all.law == null ? NONE : all.law.size(), all.now};
+        return counts[what];
+    }
+
     int count(int what) {
+        if (what < 10) {
+            return what < 0 ? NONE : told(what);
+        }
         int waiting = 0;
         int inIce = 0;
         int opened = 0;
@@ -1119,9 +1129,7 @@ final class Model {
             inIce += path(i).inIce(all.now) ? 1 : 0;
             opened += all.letters.get(i)[5] != NONE ? 1 : 0;
         }
-        int[] counts = {all.lanes, all.last, all.sections.size(), all.people.size(), all.letters.size(),
-            all.floods.size(), all.tables.size(), all.texts, all.law == null ? NONE : all.law.size(), all.now,
-            all.snow, all.fall, all.stripe, all.seed, opened, waiting, inIce, acts.size()};
-        return what < 0 || what >= counts.length ? NONE : counts[what];
+        int[] counts = {all.snow, all.fall, all.stripe, all.seed, opened, waiting, inIce, acts.size()};
+        return what >= 10 + counts.length ? NONE : counts[what - 10];
     }
 }

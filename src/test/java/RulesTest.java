@@ -32,6 +32,7 @@ public final class RulesTest {
 
     public static void main(String[] args) throws IOException {
         face();
+        faceAsTold(Files.readString(Path.of(SOURCE)), Files.readAllLines(Path.of("../shared/DOC.md")));
         members();
         text(Files.readAllLines(Path.of(SOURCE)));
         Check.finish();
@@ -55,6 +56,22 @@ public final class RulesTest {
         Check.same("of no arguments", constructors[0].getParameterCount(), 0);
         Check.same("public", Modifier.isPublic(constructors[0].getModifiers()), true);
         Check.same("a final class", Modifier.isFinal(GlacierMail.class.getModifiers()), true);
+    }
+
+    /** Each line of the face stands in the class as it is told, above all with what the call throws. */
+    private static void faceAsTold(String source, List<String> doc) {
+        String text = source.replaceAll("\\s+", " ");
+        int told = 0;
+        for (String line : doc) {
+            if (line.startsWith("    public ")) {
+                String due = line.trim();
+                boolean method = due.endsWith(");") || due.contains(") throws ");
+                Check.same("the class has: " + due,
+                        text.contains(method ? due.replaceAll(";$", " {") : due), true);
+                told++;
+            }
+        }
+        Check.same("the constant, the constructor, and the calls", told, 2 + FACE.length);
     }
 
     private static void members() {
