@@ -9,11 +9,10 @@ final class CallWords {
     }
 
     static void all() {
+        says(1, "Ice without SECTIONS.", CallWords::newObject);
         texts();
         people();
         throwing();
-        int n = 1;
-        says(n, "Ice without SECTIONS.", CallWords::newObject);
     }
 
     private static void says(int promise, String words, Runnable test) {
