@@ -128,6 +128,7 @@ final class LawWords {
         Check.same("two ALL of two", Texts.holds(no + " and " + yes + " or " + yes + " and " + no), false);
         Check.same("side or first, and", Texts.holds("side and " + yes + " or first and " + yes), true);
         Check.same("first and side", Texts.holds("first and side"), false);
+        Check.same("not side and first", Texts.holds("not side and first"), true);
         Check.same("side or not, and first", Texts.holds("side and first or not first"), false);
         Check.same("many ALL", Texts.holds(no + (" or " + no).repeat(20) + " or " + yes), true);
         Check.same("many ATOMS", Texts.holds(yes + (" and " + yes).repeat(20) + " and " + no), false);
@@ -147,6 +148,7 @@ final class LawWords {
         Check.same("not of what is within ( )", Texts.holds("not ( 1<2 or 1<2 )"), false);
         Check.same("( C )", Texts.holds("(1<2 or 1<2) and 2<1"), false);
         Check.same("C of one ALL alone", Texts.holds("1<2 and (2<1)"), false);
+        Check.same("C of one ALL alone that holds", Texts.holds("1<2 and (1<2)"), true);
         Check.same("C of one ALL alone, of side", Texts.holds("first and (side)"), false);
         Check.same("( ) within ( )", Texts.holds("1<2 and (1<2 and (2<1 or 2<1))"), false);
         Check.same("first at lane 1 of 3", Texts.holds("first"), true);

@@ -220,6 +220,13 @@ final class LipWords {
         // 1 throws into lane 1, which 0 watches, and 0 into lane 0, which 2 watches
         GlacierMail nought = Check.told("lanes 2;last 10;section 0 5 5;person 0 0 watch 1;person 1 0;person 0 0 watch 0");
         Check.same("by 0", nought.chain(1, 2, 0) * 100 + nought.chain(1, 2, 1) * 10 + nought.chain(1, 2, 2), 102);
+        // 1 into lane 1, which 3 watches, 3 into lane 2, which 0 watches, 0 into lane 0, which 2 watches
+        GlacierMail three = Check.told("lanes 3;last 10;section 0 5 5 5;person 0 0 watch 2;person 1 0;person 0 0 watch 0;"
+                + "person 2 0 watch 1");
+        int[] due = {1, 3, 0, 2, -1};
+        for (int k = 0; k < due.length; k++) {
+            Check.same("by 3 and 0: throw " + k, three.chain(1, 2, k), due[k]);
+        }
     }
 
     /** CHAIN from person 0. */
