@@ -1201,8 +1201,8 @@ public final class GlacierMail {
         }
 
         private boolean holds(int from, int to, int[] facts) {
-            int begin = Math.max(0, from);
-            int stop = Math.min(to, codes.length);
+            int begin = from > 0 ? from : 0;
+            int stop = to < codes.length ? to : codes.length;
             // the truths still to be joined are bits, the newest the lowest: at most some fifteen, as all is six deep
             int truths = begin < stop ? 0 : 1;
             int left = 0;
@@ -1916,7 +1916,7 @@ public final class GlacierMail {
         private static final int MOST_DEPTH = 6;
 
         private final Rows lines = new Rows(12, 4);
-        // a text of 400 bytes has fewer codes than bytes: the dearest, and1<1, has five of six
+        // all codes of a full TAPE find room: the dearest part, or1<1, has one a byte, a LINE's first words have none
         private final int[] codes = new int[MOST_TAPE];
         private int used = 0;
 

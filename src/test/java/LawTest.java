@@ -182,6 +182,11 @@ public final class LawTest {
         Check.same("all hold", mail.flow(0, 0, 0), 1);
         Check.law(mail, text.substring(0, 399) + "0");
         Check.same("all but the last", mail.flow(0, 0, 0), 0);
+        String either = "fast1if1<0" + "or1<0".repeat(77);
+        Check.same("the dearest text: a code a byte behind its first words", Check.law(mail, either + "or0<1"), 1);
+        Check.same("just the last holds", mail.flow(0, 0, 0), 1);
+        Check.law(mail, either + "or1<1");
+        Check.same("none holds", mail.flow(0, 0, 0), 0);
         Check.law(mail, "fast1if row>" + "+1".repeat(194).substring(1));
         Check.same("194 parts", mail.flow(0, 0, 0), 0);
         Check.law(mail, "fast1if " + "+9".repeat(193).substring(1) + ">999");

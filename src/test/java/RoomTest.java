@@ -107,6 +107,7 @@ public final class RoomTest {
     public static void main(String[] args) {
         Map<String, Act> acts = acts();
         allAreCalled(acts);
+        Check.same("the long law fills the TAPE", longLaw().length(), 400);
         Room own = new Room(new GlacierMail());
         Check.same("a new object's objects are few", own.objects() < 1_000, true);
         Check.same("a new object's elements are few", own.elements() < 50_000, true);
@@ -166,16 +167,9 @@ public final class RoomTest {
         return mail;
     }
 
-    /** A law that fills the TAPE with as many parts as can stand in it. */
+    /** A law that fills the TAPE with as many codes as can stand in it: each or1<1 is five of them, and five bytes. */
     private static String longLaw() {
-        StringBuilder law = new StringBuilder("open;fast 1if 1<1");
-        while (law.length() + 6 <= 400) {
-            law.append("and1<1");
-        }
-        while (law.length() + 2 <= 400) {
-            law.append("+1");
-        }
-        return law.toString();
+        return "open if1<1" + "or1<1".repeat(78);
     }
 
     private static void allAreCalled(Map<String, Act> acts) {
